@@ -19,6 +19,12 @@ final class ChunkTest extends Checks {
             }
         }
         due("27: another channel", p.chunkSum(0, GREEN), 0);
+        p.setEmission(3, BLUE, 1);
+        p.set(0, 0, 0, 3);
+        p.set(11, 7, 11, 3);
+        due("27: the first cell", p.chunkSum(0, BLUE), 1);
+        due("27: the last cell", p.chunkSum(8, BLUE), 1);
+        p.set(11, 7, 11, 2);
         due("27: sunlight", new LightPropagator().chunkSum(8, SUN), 15 * 128);
         p.setEmission(2, RED, 2);
         due("27: two layers", p.chunkSum(3, RED), 16 * 2 + 16);

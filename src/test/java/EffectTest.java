@@ -43,6 +43,10 @@ final class EffectTest extends Checks {
                 due("23: chunk of " + x + " " + z, p.effectChunks(), 1 << 3 * (z / 4) + x / 4);
             }
         }
+        p.setEmission(3, GREEN, 1);
+        p.set(0, 0, 0, 3);
+        due("22: the first cell alone", p.effect(0), 0);
+        due("23: the first cell alone", p.effectChunks(), 1);
         p.fill(0, 0, 0, 12, 8, 0);
         due("23: all chunks", p.effectChunks(), 511);
         p.setEmission(2, RED, 2);

@@ -4,6 +4,7 @@ final class HistoryTest extends Checks {
         undoEachKind();
         undoSix();
         undoAndGoOn();
+        undoAndRestoreTypes();
         undoWhatDidNothing();
         save();
         restore();
@@ -75,6 +76,35 @@ final class HistoryTest extends Checks {
         due("12: the first is gone", p.type(0, 0, 0), 0);
         p.openBatch();
         due("12: STATE before NONE", p.undo(), STATE);
+    }
+
+    private static void undoAndRestoreTypes() {
+        for (int type = 0; type < 8; type++) {
+            for (int channel = 0; channel < 4; channel++) {
+                LightPropagator p = new LightPropagator();
+                p.setLoss(type, channel, 5);
+                p.save();
+                p.setLoss(type, channel, 6);
+                p.undo();
+                due("12: loss " + type + " " + channel, p.loss(type, channel), 5);
+                p.undo();
+                due("12: first loss " + type + " " + channel, p.loss(type, channel), type == 1 ? 15 : 0);
+                p.restore();
+                due("38: loss " + type + " " + channel, p.loss(type, channel), 5);
+            }
+            for (int channel = 0; channel < 3; channel++) {
+                LightPropagator p = new LightPropagator();
+                p.setEmission(type, channel, 5);
+                p.save();
+                p.setEmission(type, channel, 6);
+                p.undo();
+                due("12: emission " + type + " " + channel, p.emission(type, channel), 5);
+                p.undo();
+                due("12: first emission " + type + " " + channel, p.emission(type, channel), 0);
+                p.restore();
+                due("38: emission " + type + " " + channel, p.emission(type, channel), 5);
+            }
+        }
     }
 
     private static void undoWhatDidNothing() {

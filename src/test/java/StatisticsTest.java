@@ -28,6 +28,10 @@ final class StatisticsTest extends Checks {
             due("29: lit more", p.dark(1), 1151);
             due("29: none more", p.dark(2), 1152);
         }
+        p.fill(0, 0, 0, 12, 8, 4);
+        p.set(0, 0, 0, 1);
+        p.set(11, 7, 11, 1);
+        due("29: the first cell and the last", p.dark(1), 2);
         due("29: -1", p.dark(-1), BAD_VALUE);
         due("29: 16", p.dark(16), BAD_VALUE);
         due("29: least", p.dark(Integer.MIN_VALUE), BAD_VALUE);
@@ -116,6 +120,12 @@ final class StatisticsTest extends Checks {
         p.set(3, 7, 11, 3);
         due("32: the lesser x", p.brightest(BLUE), number(3, 7, 11));
         due("32: another channel", p.brightest(RED), NONE);
+        p.setEmission(3, RED, 1);
+        due("32: a light of 1", p.brightest(RED), number(3, 7, 11));
+        p.set(1, 0, 0, 3);
+        due("32: the second cell", p.brightest(RED), number(1, 0, 0));
+        p.set(0, 0, 0, 3);
+        due("32: the first cell", p.brightest(RED), 0);
         due("32: sunlight", new LightPropagator().brightest(SUN), 0);
         for (int outside : OUTSIDE) {
             due("32: channel", p.brightest(outside), NO_SUCH_ELEMENT);
@@ -144,6 +154,8 @@ final class StatisticsTest extends Checks {
         due("33: touching up and apart in z", p.regions(1), 3);
         p.set(3, 3, 2, 2);
         due("33: corners are not neighbors", p.regions(3), 6);
+        p.set(0, 0, 0, 2);
+        due("33: the first cell", p.regions(3), 7);
         p.fill(0, 0, 0, 12, 8, 2);
         due("33: all cells", p.regions(3), 1);
         due("33: nothing changes", p.isConsistent(), 1);
@@ -174,6 +186,10 @@ final class StatisticsTest extends Checks {
         due("35: 1", p.histogram(RED, 1), 18);
         due("35: 0", p.histogram(RED, 0), 1152 - 25);
         due("35: 15", p.histogram(RED, 15), 0);
+        p.setEmission(3, GREEN, 7);
+        p.set(0, 0, 0, 3);
+        p.set(11, 7, 11, 3);
+        due("35: the first cell and the last", p.histogram(GREEN, 7), 2);
         due("35: another channel", p.histogram(BLUE, 0), 1152);
         due("35: sunlight", new LightPropagator().histogram(SUN, 15), 1152);
         for (int outside : OUTSIDE) {

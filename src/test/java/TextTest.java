@@ -9,6 +9,7 @@ final class TextTest extends Checks {
         readWhileOpen();
         faults();
         refusals();
+        boxes();
         end();
     }
 
@@ -85,6 +86,8 @@ final class TextTest extends Checks {
         due("10: eight commands", read(p, "l0,0,1;l0,0,2;l0,0,3;e0,0,4;e0,0,5;e0,0,6;e0,0,7;l0,0,8"), 8);
         due("10: the last counts", p.loss(0, 0) * 16 + p.emission(0, 0), 8 * 16 + 7);
         due("11: no fault", p.faultPosition(), NONE);
+        due("10: a shorter text", read(p, "e0,0,3"), 1);
+        due("10: without the commands of the longer one", p.loss(0, 0) * 16 + p.emission(0, 0), 8 * 16 + 3);
     }
 
     private static void readTogether() {
@@ -156,6 +159,21 @@ final class TextTest extends Checks {
         dueFault("e0,0,0;x", 7);
         dueFault("s99,0,0=1;s", 11);
         dueFault("s0,0,0=9;s0,0,0=1x", 17);
+    }
+
+    /** Each of X, Y and Z is compared with its own one alone. */
+    private static void boxes() {
+        LightPropagator p = new LightPropagator();
+        due("10: Y less than x", read(p, "f9,1,2,10,3,4=1"), 1);
+        due("10: its last cell", p.type(10, 3, 4), 1);
+        due("10: X less than y and z", read(p, "f0,5,9,1,6,11=2"), 1);
+        due("10: its last cell", p.type(1, 6, 11), 2);
+        due("10: Z less than x and y", read(p, "f7,5,2,8,6,3=4"), 1);
+        due("10: its last cell", p.type(8, 6, 3), 4);
+        due("10: t less than all", read(p, "f11,7,11,11,7,11=0"), 1);
+        due("10: the whole world", read(p, "f0,0,0,11,7,11=7"), 1);
+        due("10: its cells", p.save(), 1152);
+        due("11: none is refused", p.faultPosition(), NONE);
     }
 
     private static void refusals() {

@@ -47,6 +47,10 @@ final class WhatIfTest extends Checks {
         p.setEmission(3, RED, 15);
         p.set(7, 3, 5, 3);
         due("25: outshone", p.spread(5, 3, 5, RED), 0);
+        p.set(0, 0, 0, 2);
+        due("25: the first cell", p.spread(0, 0, 0, BLUE), 1);
+        p.set(11, 7, 11, 2);
+        due("25: the last cell", p.spread(11, 7, 11, BLUE), 1);
     }
 
     private static void needed() {
