@@ -56,8 +56,9 @@ public final class LightPropagator {
     private int fault = NONE;
 
     public LightPropagator() {
-        for (int channel = 0; channel < CHANNELS; channel++) {
-            lighting.find(world, channel, NOWHERE, lights[channel]);
+        // Type 0 has no loss and no emission: the sun is everywhere, and nothing else.
+        for (int cell = 0; cell < CELLS; cell++) {
+            lights[SUN][cell] = MOST;
         }
     }
 
