@@ -52,7 +52,9 @@ class Checks {
     static void dueFault(String text, int position) {
         LightPropagator p = new LightPropagator();
         long before = p.checksum();
-        due("read of \"" + text + "\"", read(p, text), BAD_VALUE);
+        write(p, text);
+        due("length of \"" + text + "\"", p.append(0), text.length());
+        due("read of \"" + text + "\"", p.read(), BAD_VALUE);
         due("fault position of \"" + text + "\"", p.faultPosition(), position);
         due("checksum after \"" + text + "\"", p.checksum(), before);
         due("undo after \"" + text + "\"", p.undo(), NONE);

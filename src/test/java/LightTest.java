@@ -13,10 +13,8 @@ final class LightTest extends Checks {
     }
 
     private static void lampInTheDark() {
-        LightPropagator p = night();
-        p.setEmission(2, GREEN, 15);
-        p.set(0, 0, 0, 2);
         for (int z = 0; z < 12; z++) {
+            LightPropagator p = lampInTheCorner();
             for (int y = 0; y < 8; y++) {
                 for (int x = 0; x < 12; x++) {
                     due("16: light", p.light(x, y, z, GREEN), Math.max(0, 15 - x - y - z));
@@ -24,10 +22,18 @@ final class LightTest extends Checks {
                 }
             }
         }
+        LightPropagator p = lampInTheCorner();
         p.set(1, 0, 0, 1);
         p.set(0, 1, 0, 1);
         p.set(0, 0, 1, 1);
         due("16: shut in", p.histogram(GREEN, 0), 1151);
+    }
+
+    private static LightPropagator lampInTheCorner() {
+        LightPropagator p = night();
+        p.setEmission(2, GREEN, 15);
+        p.set(0, 0, 0, 2);
+        return p;
     }
 
     private static void losses() {

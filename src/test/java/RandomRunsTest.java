@@ -2,14 +2,16 @@ import java.util.Random;
 
 /** All promises: runs of calls, always the same ones, whose answers a slow and literal model gives, too. */
 final class RandomRunsTest extends Checks {
-    private static final int RUNS = 60;
-    private static final int CALLS = 160;
+    private static final int RUNS = 100;
+    // What an object answers after its 512th call is free; one step of a run makes fewer than 60 calls.
+    private static final int CALLS = 512 - 60;
     private static final int KINDS = 37;
 
     private final Random random;
     private final String run;
     private final LightPropagator p = new LightPropagator();
     private final Model m = new Model();
+    private int calls = 0;
 
     private RandomRunsTest(int seed) {
         random = new Random(seed);
@@ -27,10 +29,10 @@ final class RandomRunsTest extends Checks {
         for (int type = 1; type < 6; type++) {
             int channel = random.nextInt(3);
             int strength = random.nextInt(16);
-            p.setEmission(type, channel, strength);
-            m.setEmission(type, channel, strength);
+            same("setEmission at first", p.setEmission(type, channel, strength),
+                    m.setEmission(type, channel, strength));
         }
-        for (int call = 0; call < CALLS; call++) {
+        while (calls < CALLS) {
             // Changes come more often than one question alone, so that the questions have something to tell.
             int kind = random.nextInt(KINDS + 16);
             if (kind < 24) {
@@ -40,9 +42,16 @@ final class RandomRunsTest extends Checks {
             } else {
                 askOfAll(kind);
             }
-            due(run + "checksum after call " + call, p.checksum(), m.checksum());
-            due(run + "effect after call " + call, p.effect(-1), m.effect(-1));
+            same("checksum", p.checksum(), m.checksum());
+            same("effect", p.effect(-1), m.effect(-1));
         }
+        due(run + "calls are at most 512", Math.max(512, calls), 512);
+    }
+
+    /** The answers of one call of both. */
+    private void same(String call, long got, long want) {
+        calls++;
+        due(run + "call " + calls + ", " + call, got, want);
     }
 
     /** Mostly 0 to last, now and then outside. */
@@ -63,46 +72,46 @@ final class RandomRunsTest extends Checks {
         int v = any(15);
         switch (kind) {
             case 0:
-                due(run + "openBatch", p.openBatch(), m.openBatch());
+                same("openBatch", p.openBatch(), m.openBatch());
                 for (int n = below(50); n > 0; n--) {
                     x = any(11);
                     z = any(11);
                     t = any(7);
-                    due(run + "set in batch", p.set(x, y, z, t), m.set(x, y, z, t));
+                    same("set in batch", p.set(x, y, z, t), m.set(x, y, z, t));
                 }
                 break;
             case 1:
             case 2:
-                due(run + "closeBatch", p.closeBatch(), m.closeBatch());
+                same("closeBatch", p.closeBatch(), m.closeBatch());
                 break;
             case 3:
-                due(run + "dropBatch", p.dropBatch(), m.dropBatch());
+                same("dropBatch", p.dropBatch(), m.dropBatch());
                 break;
             case 4:
             case 5:
-                due(run + "undo", p.undo(), m.undo());
+                same("undo", p.undo(), m.undo());
                 break;
             case 6:
             case 7:
                 int width = random.nextInt(4) == 0 ? any(13) : below(6);
                 int height = random.nextInt(4) == 0 ? any(9) : below(4);
-                due(run + "fill", p.fill(x, y, z, width, height, t), m.fill(x, y, z, width, height, t));
+                same("fill", p.fill(x, y, z, width, height, t), m.fill(x, y, z, width, height, t));
                 break;
             case 8:
-                due(run + "fill of a layer", p.fill(0, y, 0, 12, 1, t), m.fill(0, y, 0, 12, 1, t));
+                same("fill of a layer", p.fill(0, y, 0, 12, 1, t), m.fill(0, y, 0, 12, 1, t));
                 break;
             case 9:
                 v = random.nextBoolean() ? any(15) : below(3);
-                due(run + "setLoss", p.setLoss(t, v & 3, v), m.setLoss(t, v & 3, v));
+                same("setLoss", p.setLoss(t, v & 3, v), m.setLoss(t, v & 3, v));
                 break;
             case 10:
                 int channel = any(3);
-                due(run + "setLoss", p.setLoss(t, channel, v), m.setLoss(t, channel, v));
+                same("setLoss", p.setLoss(t, channel, v), m.setLoss(t, channel, v));
                 break;
             case 11:
             case 12:
                 channel = any(2);
-                due(run + "setEmission", p.setEmission(t, channel, v), m.setEmission(t, channel, v));
+                same("setEmission", p.setEmission(t, channel, v), m.setEmission(t, channel, v));
                 break;
             case 13:
             case 14:
@@ -110,15 +119,15 @@ final class RandomRunsTest extends Checks {
                 text();
                 break;
             case 16:
-                due(run + "save", p.save(), m.save());
+                same("save", p.save(), m.save());
                 break;
             case 17:
                 if (below(4) == 0) {
-                    due(run + "restore", p.restore(), m.restore());
+                    same("restore", p.restore(), m.restore());
                 }
                 break;
             default:
-                due(run + "set", p.set(x, y, z, t), m.set(x, y, z, t));
+                same("set", p.set(x, y, z, t), m.set(x, y, z, t));
                 break;
         }
     }
@@ -141,14 +150,14 @@ final class RandomRunsTest extends Checks {
                 packed = packed << 8 | (skipped ? 0 : text.charAt(at));
                 at += skipped ? 0 : 1;
             }
-            due(run + "append", p.append(packed), m.append(packed));
+            same("append", p.append(packed), m.append(packed));
         }
         if (below(8) == 0) {
             int packed = random.nextInt();
-            due(run + "append of anything", p.append(packed), m.append(packed));
+            same("append of anything", p.append(packed), m.append(packed));
         }
-        due(run + "read", p.read(), m.read());
-        due(run + "faultPosition", p.faultPosition(), m.faultPosition());
+        same("read", p.read(), m.read());
+        same("faultPosition", p.faultPosition(), m.faultPosition());
     }
 
     private String command() {
@@ -176,36 +185,36 @@ final class RandomRunsTest extends Checks {
         int c = any(3);
         switch (kind) {
             case 24:
-                due(run + "type", p.type(x, y, z), m.type(x, y, z));
-                due(run + "lights", p.lights(x, y, z), m.lights(x, y, z));
+                same("type", p.type(x, y, z), m.type(x, y, z));
+                same("lights", p.lights(x, y, z), m.lights(x, y, z));
                 break;
             case 25:
-                due(run + "light", p.light(x, y, z, c), m.light(x, y, z, c));
+                same("light", p.light(x, y, z, c), m.light(x, y, z, c));
                 break;
             case 26:
             case 27:
                 for (int i = 0; i < 12; i++) {
-                    due(run + "origin", p.origin(i, y, z, c), m.origin(i, y, z, c));
-                    due(run + "wayLength", p.wayLength(i, y, z, c), m.wayLength(i, y, z, c));
-                    due(run + "wayEnd", p.wayEnd(i, y, z, c), m.wayEnd(i, y, z, c));
+                    same("origin", p.origin(i, y, z, c), m.origin(i, y, z, c));
+                    same("wayLength", p.wayLength(i, y, z, c), m.wayLength(i, y, z, c));
+                    same("wayEnd", p.wayEnd(i, y, z, c), m.wayEnd(i, y, z, c));
                 }
                 break;
             case 28:
                 int t = any(7);
-                due(run + "lightIf", p.lightIf(x, y, z, t, c), m.lightIf(x, y, z, t, c));
+                same("lightIf", p.lightIf(x, y, z, t, c), m.lightIf(x, y, z, t, c));
                 break;
             case 29:
             case 30:
-                due(run + "spread", p.spread(x, y, z, c), m.spread(x, y, z, c));
+                same("spread", p.spread(x, y, z, c), m.spread(x, y, z, c));
                 break;
             case 31:
             case 32:
                 int wanted = any(15);
-                due(run + "needed", p.needed(x, y, z, c, wanted), m.needed(x, y, z, c, wanted));
+                same("needed", p.needed(x, y, z, c, wanted), m.needed(x, y, z, c, wanted));
                 break;
             default:
                 int d = any(5);
-                due(run + "ray", p.ray(x, y, z, d, c), m.ray(x, y, z, d, c));
+                same("ray", p.ray(x, y, z, d, c), m.ray(x, y, z, d, c));
                 break;
         }
     }
@@ -215,48 +224,48 @@ final class RandomRunsTest extends Checks {
         int c = any(3);
         switch (kind) {
             case 34:
-                due(run + "dark", p.dark(a), m.dark(a));
+                same("dark", p.dark(a), m.dark(a));
                 break;
             case 35:
                 int x = any(11);
                 int z = any(11);
-                due(run + "skyHeight", p.skyHeight(x, z), m.skyHeight(x, z));
+                same("skyHeight", p.skyHeight(x, z), m.skyHeight(x, z));
                 break;
             case 36:
-                due(run + "brightest", p.brightest(c), m.brightest(c));
+                same("brightest", p.brightest(c), m.brightest(c));
                 break;
             case 37:
             case 38:
-                due(run + "regions", p.regions(a), m.regions(a));
+                same("regions", p.regions(a), m.regions(a));
                 break;
             case 39:
-                due(run + "isConsistent", p.isConsistent(), 1);
+                same("isConsistent", p.isConsistent(), 1);
                 break;
             case 40:
-                due(run + "histogram", p.histogram(c, a), m.histogram(c, a));
+                same("histogram", p.histogram(c, a), m.histogram(c, a));
                 break;
             case 41:
-                due(run + "effectChunks", p.effectChunks(), m.effectChunks());
-                due(run + "batchSize", p.batchSize(), m.batchSize());
+                same("effectChunks", p.effectChunks(), m.effectChunks());
+                same("batchSize", p.batchSize(), m.batchSize());
                 break;
             case 42:
             case 43:
                 int index = below(4) == 0 ? random.nextInt() : below(m.effect(-1) + 3) - 2;
-                due(run + "effect", p.effect(index), m.effect(index));
+                same("effect", p.effect(index), m.effect(index));
                 break;
             case 44:
-                due(run + "chunkSum", p.chunkSum(a % 10, c), m.chunkSum(a % 10, c));
+                same("chunkSum", p.chunkSum(a % 10, c), m.chunkSum(a % 10, c));
                 break;
             case 45:
             case 46:
                 for (int other = 0; other < 10; other++) {
-                    due(run + "crossings", p.crossings(a % 10, other, c), m.crossings(a % 10, other, c));
+                    same("crossings", p.crossings(a % 10, other, c), m.crossings(a % 10, other, c));
                 }
                 break;
             default:
                 int t = any(7);
-                due(run + "loss", p.loss(t, c), m.loss(t, c));
-                due(run + "emission", p.emission(t, c), m.emission(t, c));
+                same("loss", p.loss(t, c), m.loss(t, c));
+                same("emission", p.emission(t, c), m.emission(t, c));
                 break;
         }
     }

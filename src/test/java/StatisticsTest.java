@@ -204,20 +204,25 @@ final class StatisticsTest extends Checks {
     }
 
     private static void checksum() {
-        LightPropagator p = new LightPropagator();
-        due("36: new", p.checksum(), -9054142677714636783L);
-        p.setEmission(2, RED, 9);
-        p.set(5, 3, 5, 2);
-        p.set(0, 7, 0, 1);
-        p.set(11, 7, 11, 7);
+        due("36: new", new LightPropagator().checksum(), -9054142677714636783L);
         long sum = 17;
         for (int z = 0; z < 12; z++) {
+            LightPropagator p = lampAndBlock();
             for (int y = 0; y < 8; y++) {
                 for (int x = 0; x < 12; x++) {
                     sum = sum * 31 + p.type(x, y, z) + 8 * p.lights(x, y, z);
                 }
             }
         }
-        due("36: of types and lights", p.checksum(), sum);
+        due("36: of types and lights", lampAndBlock().checksum(), sum);
+    }
+
+    private static LightPropagator lampAndBlock() {
+        LightPropagator p = new LightPropagator();
+        p.setEmission(2, RED, 9);
+        p.set(5, 3, 5, 2);
+        p.set(0, 7, 0, 1);
+        p.set(11, 7, 11, 7);
+        return p;
     }
 }

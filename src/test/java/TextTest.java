@@ -5,6 +5,7 @@ final class TextTest extends Checks {
         appendUntilFull();
         appendWrongly();
         readCommands();
+        readBox();
         readTogether();
         readWhileOpen();
         faults();
@@ -65,15 +66,6 @@ final class TextTest extends Checks {
         LightPropagator p = new LightPropagator();
         due("10: s", read(p, "s11,7,0=1"), 1);
         due("10: its type", p.type(11, 7, 0), 1);
-        due("10: f", read(p, "f1,2,3,4,5,6=7"), 1);
-        for (int z = 0; z < 12; z++) {
-            for (int y = 0; y < 8; y++) {
-                for (int x = 0; x < 11; x++) {
-                    boolean inside = x >= 1 && x <= 4 && y >= 2 && y <= 5 && z >= 3 && z <= 6;
-                    due("10: type in a box", p.type(x, y, z), inside ? 7 : 0);
-                }
-            }
-        }
         due("10: f of one cell", read(p, "f0,0,0,0,0,0=4"), 1);
         due("10: its type", p.type(0, 0, 0), 4);
         due("10: l", read(p, "l7,3,15"), 1);
@@ -159,6 +151,19 @@ final class TextTest extends Checks {
         dueFault("e0,0,0;x", 7);
         dueFault("s99,0,0=1;s", 11);
         dueFault("s0,0,0=9;s0,0,0=1x", 17);
+    }
+
+    private static void readBox() {
+        for (int z = 0; z < 12; z++) {
+            LightPropagator p = new LightPropagator();
+            due("10: f", read(p, "f1,2,3,4,5,6=7"), 1);
+            for (int y = 0; y < 8; y++) {
+                for (int x = 0; x < 12; x++) {
+                    boolean inside = x >= 1 && x <= 4 && y >= 2 && y <= 5 && z >= 3 && z <= 6;
+                    due("10: type in a box", p.type(x, y, z), inside ? 7 : 0);
+                }
+            }
+        }
     }
 
     /** Each of X, Y and Z is compared with its own one alone. */

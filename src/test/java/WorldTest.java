@@ -13,8 +13,8 @@ final class WorldTest extends Checks {
     }
 
     private static void newObject() {
-        LightPropagator p = new LightPropagator();
         for (int z = 0; z < 12; z++) {
+            LightPropagator p = new LightPropagator();
             for (int y = 0; y < 8; y++) {
                 for (int x = 0; x < 12; x++) {
                     due("1: type of a new cell", p.type(x, y, z), 0);
@@ -22,6 +22,7 @@ final class WorldTest extends Checks {
                 }
             }
         }
+        LightPropagator p = new LightPropagator();
         for (int type = 0; type < 8; type++) {
             for (int channel = 0; channel < 4; channel++) {
                 due("1: loss " + type + " " + channel, p.loss(type, channel), type == 1 ? 15 : 0);
@@ -93,19 +94,19 @@ final class WorldTest extends Checks {
     }
 
     private static void fillBox() {
-        LightPropagator p = new LightPropagator();
-        // The 2 by 2 columns are shut up to y 3; y 0 below them takes 14 from the sides.
-        due("6: effect", p.fill(2, 1, 3, 2, 3, 1), 16);
         for (int z = 0; z < 12; z++) {
+            LightPropagator p = new LightPropagator();
+            // The 2 by 2 columns are shut up to y 3; y 0 below them takes 14 from the sides.
+            due("6: effect", p.fill(2, 1, 3, 2, 3, 1), 16);
             for (int y = 0; y < 8; y++) {
                 for (int x = 0; x < 12; x++) {
                     boolean inside = x >= 2 && x <= 3 && y >= 1 && y <= 3 && z >= 3 && z <= 4;
                     due("6: type", p.type(x, y, z), inside ? 1 : 0);
                 }
             }
+            due("6: undone as a whole", p.undo(), 0);
+            due("6: type after undo", p.type(3, 3, 4), 0);
         }
-        due("6: undone as a whole", p.undo(), 0);
-        due("6: type after undo", p.type(3, 3, 4), 0);
     }
 
     private static void fillAtBorders() {
