@@ -191,6 +191,14 @@ final class LightBoundaryTest extends Boundaries {
         due("17: all lights are 15", p.lights(11, 7, 11), 65535);
         due("17: 14 in three", p.lights(10, 7, 11), 14 + 14 * 16 + 14 * 256 + 15 * 4096);
         due("17: none", night().lights(0, 0, 0), 0);
+        int[] weights = {1, 16, 256};
+        for (int channel = 0; channel < 3; channel++) {
+            p = night();
+            p.setEmission(7, channel, 15);
+            p.set(0, 0, 0, 7);
+            due("17: 15 in channel " + channel, p.lights(0, 0, 0), 15 * weights[channel]);
+        }
+        due("17: sunlight", new LightPropagator().lights(0, 0, 0), 15 * 4096);
     }
 
     /** "NONE if the light is 0", and an origin if it is 1. */

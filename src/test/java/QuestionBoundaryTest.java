@@ -34,6 +34,7 @@ final class QuestionBoundaryTest extends Boundaries {
         regionsAtTheirLevel();
         regionsOfSeveralChannels();
         regionsThatTouch();
+        regionsAroundCorners();
         regionsOfNothingAndAll();
         consistentAlways();
         histogramOfNothingAndAll();
@@ -422,7 +423,7 @@ final class QuestionBoundaryTest extends Boundaries {
         LightPropagator p = night();
         p.setEmission(2, RED, 15);
         int[][] lamps = {{11, 7, 11}, {0, 7, 11}, {11, 0, 11}, {0, 0, 11}, {11, 7, 0}, {0, 7, 0}, {11, 0, 0},
-            {0, 0, 0}};
+            {1, 0, 0}, {0, 0, 0}};
         for (int[] lamp : lamps) {
             p.set(lamp[0], lamp[1], lamp[2], 2);
             due("32: the first of several", p.brightest(RED), number(lamp[0], lamp[1], lamp[2]));
@@ -478,6 +479,22 @@ final class QuestionBoundaryTest extends Boundaries {
         p.set(11, 7, 4, 2);
         p.set(11, 0, 5, 2);
         due("33: y 7 and the next y 0", p.regions(1), 4);
+    }
+
+    /** Each way around a corner leads back in another direction: to x - 1, y - 1 and z - 1, too. */
+    private static void regionsAroundCorners() {
+        int[][][] bends = {{{5, 0, 0}, {5, 1, 0}, {4, 1, 0}}, {{5, 0, 0}, {5, 1, 0}, {6, 1, 0}},
+            {{5, 1, 0}, {5, 1, 1}, {5, 0, 1}}, {{5, 1, 0}, {5, 1, 1}, {5, 2, 1}},
+            {{5, 0, 0}, {5, 0, 1}, {6, 0, 1}, {7, 0, 1}, {7, 0, 0}}};
+        for (int[][] bend : bends) {
+            LightPropagator p = lamp(1, bend[0][0], bend[0][1], bend[0][2]);
+            for (int[] cell : bend) {
+                p.set(cell[0], cell[1], cell[2], 2);
+            }
+            due("33: one around a corner", p.regions(1), 1);
+            p.set(bend[1][0], bend[1][1], bend[1][2], 0);
+            due("33: two without its corner", p.regions(1), 2);
+        }
     }
 
     private static void regionsOfNothingAndAll() {
